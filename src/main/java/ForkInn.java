@@ -17,6 +17,7 @@ public final class ForkInn {
     private static final int MOST_DRAWN_MEALS = 20;
     private static final int MOST_COURSES = 4;
     private static final int MOST_DRAWN_BENTS = 9;
+    private static final int ABOVE_ALL_BILLS = 1000000;
     private static final int BENTS = 100;
     private static final int SHEETS = 4;
     private static final int ANY_TOWN = -1;
@@ -248,7 +249,7 @@ public final class ForkInn {
         }
         int eater = Inn.guestOfMeal(inn.meals[i]);
         int best = 0;
-        int least = Integer.MAX_VALUE;
+        int least = ABOVE_ALL_BILLS;
         for (int d = 0; d < Inn.MOST_DISHES; d++) {
             trial.become(inn);
             trial.planMeal(i, eater, d);
@@ -267,7 +268,7 @@ public final class ForkInn {
             return found(BEYOND);
         }
         int best = 0;
-        int least = Integer.MAX_VALUE;
+        int least = ABOVE_ALL_BILLS;
         for (int kind = 0; kind < Inn.KINDS; kind++) {
             trial.become(inn);
             trial.putDishFact(dish, Inn.KIND, kind);
@@ -819,7 +820,7 @@ public final class ForkInn {
             return dishFact(dish, OFF) == 1;
         }
 
-        /** The caller has seen that there is room. Every fact is put: an undo may leave old ones behind. */
+        /** The caller has seen that there is room; so it is with a guest. */
         int addDish(int kind, int left, int right) {
             int dish = dishCount;
             dishCount++;
@@ -891,7 +892,7 @@ public final class ForkInn {
 
         boolean anotherIsFor(int guest, int town) {
             for (int g = 0; g < guestCount; g++) {
-                if (g != guest && guestFact(g, FOR) == town) {
+                if (g != guest && guests[g * GUEST_FACTS + FOR] == town) {
                     return true;
                 }
             }
@@ -1138,26 +1139,18 @@ public final class ForkInn {
             if (right < 0) {
                 return false;
             }
+            int price = takeWord("price") ? takeNumber(Inn.TOP_PRICE) : Inn.FIRST_PRICE;
+            if (price < 0) {
+                return false;
+            }
+            int served = takeWord("served") ? takeNumber(Inn.TOP_SERVED) : 0;
+            if (served < 0) {
+                return false;
+            }
             int dish = into.addDish(kind, left, right);
-            if (!readFact(into, dish, "price", Inn.PRICE) || !readFact(into, dish, "served", Inn.SERVED)) {
-                return false;
-            }
-            if (takeWord("off")) {
-                into.putDishFact(dish, Inn.OFF, 1);
-            }
-            return true;
-        }
-
-        /** A fact that may be told or not: its word, and its number. */
-        boolean readFact(Inn into, int dish, String word, int what) {
-            if (!takeWord(word)) {
-                return true;
-            }
-            int told = takeNumber(Inn.DISH_TOPS[what]);
-            if (told < 0) {
-                return false;
-            }
-            into.putDishFact(dish, what, told);
+            into.putDishFact(dish, Inn.PRICE, price);
+            into.putDishFact(dish, Inn.SERVED, served);
+            into.putDishFact(dish, Inn.OFF, takeWord("off") ? 1 : 0);
             return true;
         }
 
@@ -1170,14 +1163,11 @@ public final class ForkInn {
             if (bent < 0) {
                 return false;
             }
-            int guest = into.addGuest(bent);
-            if (!takeWord("for")) {
-                return true;
-            }
-            int town = takeNumber(Inn.TOP_TOWN);
+            int town = takeWord("for") ? takeNumber(Inn.TOP_TOWN) : 0;
             if (town < 0) {
                 return false;
             }
+            int guest = into.addGuest(bent);
             into.putGuestFact(guest, Inn.FOR, town);
             return true;
         }
@@ -1249,43 +1239,29 @@ public final class ForkInn {
                 start++;
             }
             behind = start;
+            value = 0;
             if (start >= length) {
                 token = END;
-            } else if (isLetter(bytes[start])) {
-                endWord();
-            } else if (isDigit(bytes[start])) {
-                endNumber();
-            } else {
-                token = bytes[start] == ';' ? SIGN : NO_TOKEN;
-                behind++;
+                return;
             }
-        }
-
-        void endWord() {
-            token = WORD;
-            while (behind < length && isLetter(bytes[behind])) {
-                behind++;
-            }
-        }
-
-        void endNumber() {
-            token = NUMBER;
-            value = 0;
-            while (behind < length && isDigit(bytes[behind])) {
-                // Digits behind one too many can't make it a lesser fault, but could wrap it around.
-                if (value <= TOP_NUMBER) {
+            token = tokenBegunBy(bytes[start]);
+            do {
+                // Above the top it is a fault already, and more digits could only wrap it around.
+                if (token == NUMBER && value <= TOP_NUMBER) {
                     value = 10 * value + (bytes[behind] - '0');
                 }
                 behind++;
+            } while (token != SIGN && behind < length && tokenBegunBy(bytes[behind]) == token);
+        }
+
+        static int tokenBegunBy(byte b) {
+            if (b >= 'a' && b <= 'z') {
+                return WORD;
             }
-        }
-
-        static boolean isLetter(byte b) {
-            return b >= 'a' && b <= 'z';
-        }
-
-        static boolean isDigit(byte b) {
-            return b >= '0' && b <= '9';
+            if (b >= '0' && b <= '9') {
+                return NUMBER;
+            }
+            return b == ';' ? SIGN : NO_TOKEN;
         }
     }
 
